@@ -20,6 +20,7 @@ public final class ModelTest {
     private long random;
     private int parties;
     private int nodes;
+    private int mistakes;
 
     private ModelTest(int seed) {
         this.seed = seed;
@@ -65,7 +66,7 @@ public final class ModelTest {
             System.out.println("seed " + seed + ": the last call answered " + got + ", due is " + due);
             System.exit(1);
         }
-        String sign = due instanceof String || due instanceof Character ? ' ' + due.toString() : "";
+        String sign = due instanceof Integer ? "" : " " + due;
         SEEN.merge(name + sign, 1, Integer::sum);
         return due;
     }
@@ -112,18 +113,25 @@ public final class ModelTest {
         for (int i = 0; i < parties; i++) {
             call("addParty");
         }
-        nodes = 6 + below(15);
+        nodes = 4 + below(17);
+        int seen = 20 + below(60);
+        boolean isSent = chance(30);
         for (int i = 0; i < nodes; i++) {
-            if (i == 0 || chance(50)) {
-                call("addMessage", 1, 2);
+            if (i == 0 || chance(seen)) {
+                call("addMessage", isSent ? 2 : 1, isSent ? 1 : 2);
+            } else if (chance(3)) {
+                call("addEnd");
             } else {
                 call("addMessage", 0, 1);
             }
         }
+        int labels = isSent ? 3 : 3 + below(2);
+        int wrongCells = below(4);
         for (int i = 0; i < nodes; i++) {
-            int count = 1 + below(3);
+            int count = isSent && chance(97) ? 3 : 1 + below(3);
             for (int branch = 0; branch < count; branch++) {
-                call("addBranch", i, below(3), false, below(nodes));
+                int label = count == 3 && isSent ? branch : below(labels);
+                call("addBranch", i, label, label == 1 ^ chance(wrongCells), below(nodes));
             }
         }
         call("setStart", below(nodes));
@@ -147,9 +155,24 @@ public final class ModelTest {
 
     // ---- programs
 
+    /** Adds an instruction, or, now and then, one that is nearly it. */
     private void add(int party, char kind, int a, int b, int c) {
-        if (chance(2)) {
-            call("add", party, KINDS[below(8)].charAt(0), below(5) - 1, below(7) - 1, below(6) - 1);
+        if (chance(mistakes)) {
+            int wrong = below(6);
+            if (kind == 's' && wrong < 5) {
+                int other = wrong == 0 ? (a + 1) % parties : a;
+                call("add", party, kind, other, wrong == 1 ? below(6) : b, wrong >= 2 ? below(5) - 1 : c);
+            } else if (wrong < 2) {
+                call("add", party, 'm', below(3), below(3), 0);
+            } else if (wrong < 3) {
+                call("add", party, 'n', below(4), 0, 0);
+            } else if (wrong < 4) {
+                call("add", party, 'e', 0, 0, 0);
+            } else if (wrong < 5) {
+                call("add", party, 'j', below(20), 0, 0);
+            } else {
+                call("add", party, KINDS[below(8)].charAt(0), below(5) - 1, below(7) - 1, below(6) - 1);
+            }
         } else {
             call("add", party, kind, a, b, c);
         }
@@ -233,10 +256,11 @@ public final class ModelTest {
         int behind = here + 1;
         for (int label : labels) {
             int follower = number("follower", party, state, label);
-            if (chance(3)) {
+            if (chance(mistakes)) {
                 continue;
             }
-            call("addCase", party, here, label, follower >= 100 ? 1 : -1,
+            int name = follower >= 100 ^ chance(mistakes) ? 1 : -1;
+            call("addCase", party, here, label, name,
                     follower >= 100 ? behind : firsts.get(follower % 100));
             if (follower >= 100) {
                 add(party, 'u', 1, 0, 0);
@@ -247,8 +271,10 @@ public final class ModelTest {
     }
 
     private void buildPrograms() {
+        mistakes = chance(40) ? 0 : below(8);
+        int following = chance(50) ? 100 : 80;
         for (int party = 0; party < parties; party++) {
-            if (chance(80)) {
+            if (chance(following)) {
                 addFollowingProgram(party);
             } else {
                 addRandomProgram(party);
@@ -279,18 +305,21 @@ public final class ModelTest {
         if (call("begin", 1 + below(3)) instanceof String) {
             return;
         }
-        int count = below(60);
+        int count = below(80);
         for (int i = 0; i < count; i++) {
             call("step", below(parties));
-            if (chance(2)) {
+            if (chance(1)) {
                 call("cancel", below(parties));
             }
             if (chance(8)) {
                 call("search");
                 call("reached");
             }
-            askRun();
+            if (chance(25)) {
+                askRun();
+            }
         }
+        askRun();
         callWrongly();
         call("close");
         call("steps");
@@ -355,7 +384,7 @@ public final class ModelTest {
 
     private void testAll() {
         askBare();
-        if (seed % 10 == 0) {
+        if (seed % 6 == 0) {
             buildHiddenChoices();
         } else {
             buildProtocol();
