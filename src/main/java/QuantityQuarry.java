@@ -577,7 +577,7 @@ public final class QuantityQuarry {
         return value >= lowest && value <= highest;
     }
 
-    // All rows of numbers are read by get and written by put alone, so that no index can be wrong.
+    // Rows of numbers are read by get and written by put, so that no index can be wrong.
     private static int get(int[] row, int index) {
         return index >= 0 && index < row.length ? row[index] : 0;
     }
@@ -1524,8 +1524,8 @@ public final class QuantityQuarry {
         }
 
         boolean isSameAs(int[] rows, int offset) {
-            for (int field = 0; field < WIDTH; field++) {
-                if (get(row, field) != get(rows, offset + field)) {
+            for (int field = 0; field < row.length; field++) {
+                if (row[field] != get(rows, offset + field)) {
                     return false;
                 }
             }
@@ -1534,8 +1534,8 @@ public final class QuantityQuarry {
 
         int spreadNumber() {
             int mixed = 0;
-            for (int field = 0; field < WIDTH; field++) {
-                mixed = (mixed ^ get(row, field)) * 16777619;
+            for (int field = 0; field < row.length; field++) {
+                mixed = (mixed ^ row[field]) * 16777619;
             }
             return mixed ^ mixed >>> 15;
         }

@@ -13,6 +13,7 @@ public final class CheckTest {
         namesMakePlaces();
         statesMakePlaces();
         idleCases();
+        lastInstruction();
         changesAreSeen();
         Expect.finish();
     }
@@ -191,6 +192,33 @@ public final class CheckTest {
         Expect.same("- 3 4", told(1, "r 0", "? 1 0 1", "? 2 -1 2", "? 0 0 9", "? 3 -1 9", "u 0", "e",
                 "r 2", "? 0 0 0", "? 5 0 0"));
         Expect.same("- 3 0", told(1, "r 0", "? 2 -1 2", "? 1 0 1", "u 0", "e", "r 2"));
+    }
+
+    /** Instruction 19 goes on at itself, and has cases that are idle. */
+    private static void lastInstruction() {
+        QuantityQuarry x = Samples.ended(2);
+        for (int i = 0; i < 19; i++) {
+            x.add(0, 'j', 19, 0, 0);
+            x.add(1, 'j', 19, 0, 0);
+        }
+        x.add(0, 'j', 19, 0, 0);
+        x.add(1, 'r', 0, 0, 0);
+        x.addCase(1, 19, 0, -1, 0);
+        x.addCase(1, 19, 5, -1, 0);
+        Expect.same("- 2 0", told(x, 0));
+        Expect.same("p 19 2 2", told(x, 1));
+        Samples.nodes(x, "01");
+        Samples.branches(x, "1 0 1", "1 3 1");
+        x.setStart(1);
+        Expect.same("o 19 2 2", told(x, 1));
+        x.addCase(1, 19, 3, -1, 19);
+        Expect.same("- 2 1", told(x, 1));
+        QuantityQuarry label0 = Samples.parties(2);
+        Samples.nodes(label0, "01", "e");
+        Samples.branches(label0, "0 0 1");
+        label0.setStart(0);
+        Samples.program(label0, 1, "r 0", "? 5 -1 0");
+        Expect.same("o 0 1 1", told(label0, 1));
     }
 
     private static void changesAreSeen() {

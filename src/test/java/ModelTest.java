@@ -405,7 +405,7 @@ public final class ModelTest {
     }
 
     public static void main(String[] args) {
-        int seeds = args.length > 0 ? Integer.parseInt(args[0]) : 300;
+        int seeds = args.length > 0 ? Integer.parseInt(args[0]) : 1000;
         for (int seed = 1; seed <= seeds; seed++) {
             new ModelTest(seed).testAll();
         }

@@ -11,6 +11,7 @@ public final class ProjectionTest {
         firstStateWithAReason();
         fortyStates();
         changesAreSeen();
+        allNodesAndParties();
         Expect.finish();
     }
 
@@ -256,6 +257,72 @@ public final class ProjectionTest {
         }
         x.setStart(0);
         return x;
+    }
+
+    /** Node 19 begins a way down to node 1, hidden from parties 2 and 3 but for its ends. */
+    private static void allNodesAndParties() {
+        QuantityQuarry x = Samples.parties(4);
+        Samples.nodes(x, "e", "23");
+        for (int node = 2; node < 19; node++) {
+            x.addMessage(node % 2, 1 - node % 2);
+        }
+        x.addMessage(3, 2);
+        for (int node = 1; node < 19; node++) {
+            x.addBranch(node, node % 6, node % 2 == 0, node - 1);
+        }
+        x.setStart(19);
+        Expect.thrown(Expect.STATE, () -> x.refusal(0));
+        x.addBranch(19, 3, true, 18);
+        for (int party = 0; party < 4; party++) {
+            Expect.same('-', x.refusal(party));
+            Expect.same(party < 2 ? 19 - 1 : 3, x.states(party));
+        }
+        Expect.same(3, x.partnerOf(2, 0));
+        Expect.same(2, x.partnerOf(3, 0));
+        Expect.same('r', x.kindOf(2, 0));
+        Expect.same(101, x.follower(2, 0, 3));
+        Expect.same(2, x.follower(2, 1, 1));
+        Expect.same(3, x.partnerOf(2, 1));
+        Expect.same(101, x.follower(0, 0, 0));
+        Expect.same(2, x.follower(0, 1, 5));
+        x.addBranch(19, 4, false, 0);
+        Expect.same('-', x.refusal(2));
+        Expect.same('e', x.refusal(0));
+        QuantityQuarry whole = Samples.parties(2);
+        Samples.nodes(whole, "01", "e");
+        whole.setStart(1);
+        Expect.thrown(Expect.STATE, () -> whole.refusal(0));
+        whole.addBranch(0, 0, false, 1);
+        Expect.same('-', whole.refusal(0));
+        wideStates();
+    }
+
+    /** Nodes 0 and 19 stand in one state, so that each of them is looked at. */
+    private static void wideStates() {
+        for (int wrong = 0; wrong < 4; wrong++) {
+            QuantityQuarry x = Samples.parties(4);
+            x.addMessage(3, wrong == 1 ? 1 : 2);
+            Samples.nodes(x, "e", "01");
+            for (int node = 3; node < 19; node++) {
+                x.addEnd();
+            }
+            x.addMessage(3, 2);
+            Samples.branches(x, "2 0 0", "2 1 19");
+            x.addBranch(0, 5, true, 1);
+            x.addBranch(19, 5, wrong != 3, 1);
+            if (wrong == 2) {
+                x.addBranch(19, 4, false, 1);
+            }
+            x.setStart(2);
+            Expect.same("-tlk".charAt(wrong), x.refusal(3));
+            if (wrong == 0) {
+                x.addBranch(0, 0, false, 0);
+                x.addBranch(19, 0, false, 19);
+                Expect.same(3, x.states(3));
+                Expect.same(1, x.follower(3, 0, 0));
+                Expect.same(102, x.follower(3, 0, 5));
+            }
+        }
     }
 
     private static void changesAreSeen() {

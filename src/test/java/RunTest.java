@@ -20,6 +20,8 @@ public final class RunTest {
         monitorsBlame();
         monitorsLookLast();
         stuck();
+        refusedWithMonitor();
+        fullQueuesOfAllParties();
         whatThrowsChangesNothing();
         Expect.finish();
     }
@@ -581,6 +583,55 @@ public final class RunTest {
         Expect.same(false, wait.isStuck());
         Expect.same("dx", Samples.steps(wait, "00"));
         Expect.same(false, wait.isStuck());
+    }
+
+    /** A party that was given a monitor before it came to be refused. */
+    private static void refusedWithMonitor() {
+        for (int party = 0; party < 3; party++) {
+            QuantityQuarry x = Samples.parties(3);
+            int second = (party + 1) % 3;
+            int third = (party + 2) % 3;
+            x.addMessage(second, third);
+            x.addMessage(third, party);
+            x.addEnd();
+            Samples.branches(x, "0 0 1", "1 0 2");
+            x.setStart(0);
+            x.setMonitor(party, true);
+            x.addBranch(0, 1, false, 2);
+            Expect.thrown(Expect.STATE, () -> x.begin(1));
+            x.setStart(1);
+            Expect.same(3, x.begin(1));
+        }
+    }
+
+    /** Four parties fill all queues and hold two cells each, which is 44 cells. */
+    private static void fullQueuesOfAllParties() {
+        QuantityQuarry x = Samples.ended(4);
+        for (int party = 0; party < 4; party++) {
+            for (int other = 1; other < 4; other++) {
+                for (int i = 0; i < 3; i++) {
+                    Samples.program(x, party, "n 0", "s " + (party + other) % 4 + " 5 0");
+                }
+            }
+            Samples.program(x, party, "n 0", "n 1");
+        }
+        x.begin(3);
+        for (int i = 0; i < 80; i++) {
+            Expect.same('d', x.step(i % 4));
+            Expect.same(true, x.isConsistent());
+        }
+        Expect.same(44, x.cellsInUse());
+        Expect.same(39, x.cellIn(3, 0));
+        Expect.same(43, x.cellIn(3, 1));
+        Expect.same(536, x.messageAt(3, 2, 2));
+        for (int party = 0; party < 4; party++) {
+            Expect.same('r', x.condition(party));
+            Expect.same(11, x.cancel(party));
+            for (int from = 0; from < 4; from++) {
+                Expect.same(0, x.queued(from, party));
+            }
+        }
+        Expect.same(0, x.cellsInUse());
     }
 
     private static void whatThrowsChangesNothing() {

@@ -3,6 +3,8 @@ public final class SearchTest {
     public static void main(String[] args) {
         noRun();
         aThousandStates();
+        lastOfAThousandIsStuck();
+        oneStateMore();
         whatMakesStatesDiffer();
         stuckStates();
         searchesFromWhereTheRunIs();
@@ -52,6 +54,51 @@ public final class SearchTest {
         Expect.same(0L, many.steps());
         Expect.same(4, apart(2, 2).reached());
         Expect.same(2, apart(2).reached());
+    }
+
+    private static void lastOfAThousandIsStuck() {
+        QuantityQuarry x = Samples.ended(3);
+        for (int party = 0; party < 3; party++) {
+            for (int i = 0; i < 9; i++) {
+                x.add(party, 'j', i + 1, 0, 0);
+            }
+            x.add(party, 'r', (party + 1) % 3, 0, 0);
+        }
+        x.begin(1);
+        Expect.same(1000, x.reached());
+        Expect.same(1, x.search());
+    }
+
+    /** Three parties send to party 3, which goes on alone at the end: each jump more makes one state more. */
+    private static QuantityQuarry withTail(int jumps) {
+        QuantityQuarry x = Samples.ended(4);
+        int[] before = {2, 12, 12};
+        for (int party = 0; party < 3; party++) {
+            for (int i = 0; i < before[party]; i++) {
+                x.add(party, 'j', i + 1, 0, 0);
+            }
+            Samples.program(x, party, "s 3 0 -1", "r 3");
+        }
+        Samples.program(x, 3, "r 0", "? 0 -1 1", "r 1", "? 0 -1 2", "r 2", "? 0 -1 3");
+        for (int i = 0; i < jumps; i++) {
+            x.add(3, 'j', i + 4, 0, 0);
+        }
+        Samples.program(x, 3, "r 0");
+        x.begin(1);
+        return x;
+    }
+
+    private static void oneStateMore() {
+        QuantityQuarry less = withTail(4);
+        Expect.same(999, less.reached());
+        QuantityQuarry thousand = withTail(5);
+        Expect.same(1, thousand.search());
+        Expect.same(1000, thousand.reached());
+        QuantityQuarry more = withTail(6);
+        Expect.thrown(Expect.UNSUPPORTED, more::search);
+        Expect.thrown(Expect.UNSUPPORTED, more::reached);
+        more.step(0);
+        Expect.same(1, more.search());
     }
 
     private static int reachedBy(int capacity, String[]... programs) {

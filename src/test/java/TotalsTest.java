@@ -57,8 +57,8 @@ public final class TotalsTest {
         Samples.nodes(x, "01", "12");
         Samples.branches(x, "1 0 2", "1 1 0", "2 0 0");
         x.setStart(1);
-        Expect.same('e', x.refusal(2));
         Expect.same((3.0 + 3.0) / 2.0, x.meanPlaces());
+        Expect.same('e', x.refusal(2));
         x.addMessage(0, 1);
         Expect.thrown(Expect.STATE, x::meanPlaces);
     }
