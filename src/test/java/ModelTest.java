@@ -348,14 +348,18 @@ public final class ModelTest {
         }
     }
 
+    private int orExtreme(int value) {
+        return chance(97) ? value : chance(50) ? Integer.MIN_VALUE + below(3) : Integer.MAX_VALUE - below(3);
+    }
+
     /** Calls with numbers in and out of range, at any time. */
     private void callWrongly() {
         for (int i = 0; i < 12; i++) {
-            int p = below(7) - 1;
-            int q = below(7) - 1;
-            int n = below(23) - 1;
-            int l = below(8) - 1;
-            switch (below(14)) {
+            int p = orExtreme(below(7) - 1);
+            int q = orExtreme(below(7) - 1);
+            int n = orExtreme(below(23) - 1);
+            int l = orExtreme(below(8) - 1);
+            switch (below(17)) {
                 case 0: call("addMessage", p, q); break;
                 case 1: call("addBranch", n, l, chance(50), below(22)); break;
                 case 2: call("add", p, KINDS[below(8)].charAt(0), q, l, below(3) - 1); break;
@@ -369,6 +373,9 @@ public final class ModelTest {
                 case 10: call("follower", p, n, l); break;
                 case 11: call("step", p); break;
                 case 12: call("begin", below(6) - 1); break;
+                case 13: call("kindOf", p, n); break;
+                case 14: call("partnerOf", p, n); break;
+                case 15: call("stateOf", p); break;
                 default: call("refusal", p); break;
             }
         }
