@@ -1,4 +1,5 @@
 import java.util.Objects;
+import java.util.stream.Collectors;
 
 /** Compares answers with what is due, tells the line of each wrong one, and counts them. */
 final class Expect {
@@ -44,8 +45,9 @@ final class Expect {
 
     private static String place() {
         return StackWalker.getInstance().walk(frames -> frames
-                .filter(frame -> !frame.getClassName().startsWith("Expect"))
-                .map(frame -> frame.getFileName() + ":" + frame.getLineNumber()).findFirst().orElse("?"));
+                .filter(frame -> !frame.getClassName().startsWith("Expect")).limit(4)
+                .map(frame -> frame.getFileName() + ":" + frame.getLineNumber())
+                .collect(Collectors.joining(" < ")));
     }
 
     /** To be called last; the exit code is 1 if an answer was wrong. */

@@ -1,20 +1,14 @@
-import java.lang.reflect.InvocationTargetException;
-import java.lang.reflect.Method;
 import java.util.ArrayList;
-import java.util.HashMap;
 import java.util.List;
-import java.util.Map;
 import java.util.TreeMap;
 
 /** Makes the same calls on the program and on PlainModel; each answer must be the same. */
 public final class ModelTest {
     private static final String[] KINDS = {"n", "u", "m", "j", "d", "s", "r", "e"};
-    private static final Map<String, Method> PROGRAM = methodsOf(QuantityQuarry.class);
-    private static final Map<String, Method> MODEL = methodsOf(PlainModel.class);
     private static final TreeMap<String, Integer> SEEN = new TreeMap<>();
 
-    private final QuantityQuarry program = new QuantityQuarry();
-    private final PlainModel model = new PlainModel();
+    private final Caller program = new Caller(new QuantityQuarry());
+    private final Caller model = new Caller(new PlainModel());
     private final StringBuilder calls = new StringBuilder();
     private final int seed;
     private long random;
@@ -27,17 +21,6 @@ public final class ModelTest {
         random = seed * 0x9E3779B97F4A7C15L + 12345;
     }
 
-    private static Map<String, Method> methodsOf(Class<?> owner) {
-        Map<String, Method> methods = new HashMap<>();
-        for (Method method : owner.getDeclaredMethods()) {
-            if (java.lang.reflect.Modifier.isPublic(method.getModifiers())) {
-                method.setAccessible(true);
-                methods.put(method.getName(), method);
-            }
-        }
-        return methods;
-    }
-
     private int below(int bound) {
         random = random * 6364136223846793005L + 1442695040888963407L;
         return (int) Math.floorMod(random >>> 33, (long) bound);
@@ -47,20 +30,10 @@ public final class ModelTest {
         return below(100) < percent;
     }
 
-    private static Object answer(Method method, Object owner, Object... arguments) {
-        try {
-            return method.invoke(owner, arguments);
-        } catch (InvocationTargetException e) {
-            return e.getCause().getClass().getName();
-        } catch (IllegalAccessException e) {
-            throw new IllegalStateException(e);
-        }
-    }
-
     private Object call(String name, Object... arguments) {
         calls.append(name).append(List.of(arguments)).append('\n');
-        Object due = answer(MODEL.get(name), model, arguments);
-        Object got = answer(PROGRAM.get(name), program, arguments);
+        Object due = model.call(name, arguments);
+        Object got = program.call(name, arguments);
         if (!due.equals(got)) {
             System.out.println(calls);
             System.out.println("seed " + seed + ": the last call answered " + got + ", due is " + due);
