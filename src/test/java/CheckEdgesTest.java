@@ -1,10 +1,6 @@
-/** The boundary cases of promises 15 to 19: each reason of a wrong place, alone and with another one, and the limits. */
+/** The boundary cases of promises 15 to 19: each reason of a wrong place, alone and with others, and the limits. */
 public final class CheckEdgesTest {
-    interface OfParty {
-        Object on(QuantityQuarry x, int party);
-    }
-
-    private static final OfParty[] OF_CHECK = {QuantityQuarry::fault, QuantityQuarry::faultAt,
+    private static final World.OfParty[] OF_CHECK = {QuantityQuarry::fault, QuantityQuarry::faultAt,
         QuantityQuarry::places, QuantityQuarry::idleCases};
 
     public static void main(String[] args) {
@@ -27,32 +23,24 @@ public final class CheckEdgesTest {
         Expect.finish();
     }
 
-    /** Wrong parties, with each number of them, ahead of a protocol that is not whole. */
+    /** Wrong parties, with each number of them, ahead of all else; right ones have no instruction. */
     private static void wrongParties() {
-        for (int parties = 0; parties <= 4; parties++) {
+        World.refuseWrongParties(OF_CHECK);
+        World.refuseWrongParties((x, party) -> x.isAdmitted(party));
+        for (int parties = 1; parties <= 4; parties++) {
             int count = parties;
-            World bare = new World(() -> Samples.parties(count));
             World whole = new World(() -> Samples.ended(count));
-            for (int wrong : Ints.outside(0, count - 1)) {
-                World.allRefuse(Expect.INDEX, x -> x.isAdmitted(wrong), bare, whole, whole.begun());
-                for (OfParty call : OF_CHECK) {
-                    World.allRefuse(Expect.INDEX, x -> call.on(x, wrong), bare, whole, whole.begun());
-                }
-            }
             for (int right = 0; right < count; right++) {
                 int party = right;
-                bare.refuses(Expect.STATE, x -> x.isAdmitted(party));
-                whole.answers(false, x -> x.isAdmitted(party));
-                whole.begun().answers('i', x -> x.fault(party));
+                whole.tells(false, x -> x.isAdmitted(party));
+                whole.begun().tells('i', x -> x.fault(party));
             }
         }
     }
 
-    /** Party 2 does not learn whether it is to receive; party 0 and 1 are not refused. */
+    /** Party 2 is refused, parties 0 and 2 have programs that would be right. */
     private static QuantityQuarry refused() {
-        QuantityQuarry x = Samples.parties(3);
-        Samples.nodes(x, "01", "02", "e");
-        Samples.branches(x, "0 0 2", "0 1 1", "1 0 2");
+        QuantityQuarry x = Samples.refusedButForAStart(3);
         Samples.program(x, 0, "s 1 0 -1", "e");
         Samples.program(x, 2, "e");
         return x;
@@ -76,7 +64,7 @@ public final class CheckEdgesTest {
         for (int party = 0; party < 3; party++) {
             int asked = party;
             World.allRefuse(Expect.STATE, x -> x.isAdmitted(asked), noStart, noBranch, ends);
-            for (OfParty call : OF_CHECK) {
+            for (World.OfParty call : OF_CHECK) {
                 World.allRefuse(Expect.STATE, x -> call.on(x, asked), noStart, noBranch, ends);
             }
         }
@@ -90,7 +78,7 @@ public final class CheckEdgesTest {
             return x;
         });
         for (World asked : new World[] {world, world.begun()}) {
-            for (OfParty call : OF_CHECK) {
+            for (World.OfParty call : OF_CHECK) {
                 asked.refuses(Expect.UNSUPPORTED, x -> call.on(x, 2));
             }
             asked.answers(false, x -> x.isAdmitted(2));
@@ -134,19 +122,7 @@ public final class CheckEdgesTest {
     private static String told(int party, String... program) {
         QuantityQuarry x = threeLabels();
         Samples.program(x, party, program);
-        return told(x, party);
-    }
-
-    private static String told(QuantityQuarry x, int party) {
-        char fault = x.fault(party);
-        Expect.same(fault == '-', x.isAdmitted(party));
-        String at = "";
-        if (fault == '-') {
-            Expect.thrown(Expect.ELEMENT, () -> x.faultAt(party));
-        } else {
-            at = " " + x.faultAt(party);
-        }
-        return fault + at + " " + x.places(party) + " " + x.idleCases(party);
+        return Samples.check(x, party);
     }
 
     /** 'of a party without instructions, the first place is wrong, which is one place that was looked at'. */
@@ -166,7 +142,7 @@ public final class CheckEdgesTest {
             for (int i = 0; i < count; i++) {
                 x.add(0, i % 2 == 0 ? 'n' : 'u', 3, 0, 0);
             }
-            Expect.same("i " + count + " " + (count + 1) + " 0", told(x, 0));
+            Expect.same("i " + count + " " + (count + 1) + " 0", Samples.check(x, 0));
         }
         for (int target = 1; target < 20; target++) {
             Expect.same("i " + target + " 2 0", told(2, "j " + target));
@@ -181,7 +157,7 @@ public final class CheckEdgesTest {
             full.add(0, 'j', i + 1, 0, 0);
         }
         full.add(0, 'e', 0, 0, 0);
-        Expect.same("- 20 0", told(full, 0));
+        Expect.same("- 20 0", Samples.check(full, 0));
     }
 
     /** 'h' for each name, held and not, for each instruction that needs one or needs it free. */
@@ -302,19 +278,7 @@ public final class CheckEdgesTest {
      * that lead there: 30 + 12 * 40 * 16 places.
      */
     private static void manyPlaces() {
-        QuantityQuarry x = Samples.parties(3);
-        x.addMessage(0, 1);
-        for (int i = 0; i < 16; i++) {
-            x.addMessage(1, 2);
-        }
-        Samples.branches(x, "0 0 1", "0 1 4");
-        for (int i = 0; i < 3; i++) {
-            x.addBranch(1 + i, 5, false, 1 + (i + 1) % 3);
-        }
-        for (int i = 0; i < 13; i++) {
-            x.addBranch(4 + i, 5, false, 4 + (i + 1) % 13);
-        }
-        x.setStart(0);
+        QuantityQuarry x = Samples.cycles(true, 3, 13, false);
         Expect.same(40, x.states(2));
         for (int name = 0; name < 4; name++) {
             Samples.program(x, 2, "d 0 " + (2 * name + 2), "n " + name);
@@ -323,16 +287,16 @@ public final class CheckEdgesTest {
             x.add(2, 'j', i + 1, 0, 0);
         }
         Samples.program(x, 2, "r 1", "? 5 -1 8", "? 0 0 8");
-        Expect.same("- 7710 1", told(x, 2));
+        Expect.same("- 7710 1", Samples.check(x, 2));
         Expect.same((7710.0 + 1.0 + 1.0) / 3.0, x.meanPlaces());
         Expect.same(1.0f / 3.0f, x.admittedShare());
     }
 
     /** 6 cases of each of 20 instructions: no case is taken, one is, or three of each instruction are. */
     private static void idleCases() {
-        Expect.same("p 0 1 120", told(allCases(1, "0 5 1"), 1));
-        Expect.same("p 1 2 119", told(allCases(0, "0 5 1"), 1));
-        Expect.same("- 20 60", told(allCases(0, "0 5 0", "0 0 0", "0 3 0"), 1));
+        Expect.same("p 0 1 120", Samples.check(allCases(1, "0 5 1"), 1));
+        Expect.same("p 1 2 119", Samples.check(allCases(0, "0 5 1"), 1));
+        Expect.same("- 20 60", Samples.check(allCases(0, "0 5 0", "0 0 0", "0 3 0"), 1));
         QuantityQuarry x = Samples.ended(2);
         for (int i = 0; i < 6; i++) {
             Samples.program(x, 1, "r 0");
@@ -365,33 +329,33 @@ public final class CheckEdgesTest {
             x.addBranch(0, label, false, 1);
             x.setStart(0);
             Samples.program(x, 1, "r 0", "? 0 -1 1", "? 1 -1 1", "? 2 -1 1", "? 3 -1 1", "? 4 -1 1", "? 5 -1 1", "e");
-            Expect.same("- 2 5", told(x, 1));
+            Expect.same("- 2 5", Samples.check(x, 1));
             x.addBranch(0, (label + 1) % 6, true, 1);
-            Expect.same("c 0 1 6", told(x, 1));
+            Expect.same("c 0 1 6", Samples.check(x, 1));
         }
     }
 
     /** Each change of the protocol or of the program is seen, also one that leads back. */
     private static void changesOfTheLanguage() {
         QuantityQuarry x = Samples.ended(2);
-        Expect.same("i 0 1 0", told(x, 0));
+        Expect.same("i 0 1 0", Samples.check(x, 0));
         x.add(0, 's', 1, 0, -1);
-        Expect.same("p 0 1 0", told(x, 0));
+        Expect.same("p 0 1 0", Samples.check(x, 0));
         x.addMessage(0, 1);
         x.addBranch(1, 0, false, 0);
-        Expect.same("p 0 1 0", told(x, 0));
+        Expect.same("p 0 1 0", Samples.check(x, 0));
         x.setStart(1);
-        Expect.same("i 1 2 0", told(x, 0));
+        Expect.same("i 1 2 0", Samples.check(x, 0));
         x.add(0, 'e', 0, 0, 0);
-        Expect.same("- 2 0", told(x, 0));
+        Expect.same("- 2 0", Samples.check(x, 0));
         x.setStart(0);
-        Expect.same("p 0 1 0", told(x, 0));
+        Expect.same("p 0 1 0", Samples.check(x, 0));
         x.setStart(1);
-        Expect.same("- 2 0", told(x, 0));
+        Expect.same("- 2 0", Samples.check(x, 0));
         x.addBranch(1, 1, true, 0);
-        Expect.same("- 2 0", told(x, 0));
+        Expect.same("- 2 0", Samples.check(x, 0));
         x.addParty();
-        Expect.same("- 2 0", told(x, 0));
-        Expect.same("i 0 1 0", told(x, 2));
+        Expect.same("- 2 0", Samples.check(x, 0));
+        Expect.same("i 0 1 0", Samples.check(x, 2));
     }
 }

@@ -31,17 +31,7 @@ public final class CheckTest {
     private static String told(int party, String... program) {
         QuantityQuarry x = oneMessage();
         Samples.program(x, party, program);
-        return told(x, party);
-    }
-
-    private static String told(QuantityQuarry x, int party) {
-        char fault = x.fault(party);
-        Expect.same(fault == '-', x.isAdmitted(party));
-        if (fault == '-') {
-            Expect.thrown(Expect.ELEMENT, () -> x.faultAt(party));
-        }
-        String at = fault == '-' ? "" : " " + x.faultAt(party);
-        return fault + at + " " + x.places(party) + " " + x.idleCases(party);
+        return Samples.check(x, party);
     }
 
     private static void exceptions() {
@@ -73,10 +63,10 @@ public final class CheckTest {
 
     private static void pingPong() {
         QuantityQuarry x = Samples.pingPong();
-        Expect.same("- 6 0", told(x, 0));
-        Expect.same("- 5 0", told(x, 1));
+        Expect.same("- 6 0", Samples.check(x, 0));
+        Expect.same("- 5 0", Samples.check(x, 1));
         x.begin(1);
-        Expect.same("- 5 0", told(x, 1));
+        Expect.same("- 5 0", Samples.check(x, 1));
     }
 
     private static void noSuchInstruction() {
@@ -165,7 +155,7 @@ public final class CheckTest {
         Samples.branches(x, "0 4 1", "0 0 1", "0 3 1");
         x.setStart(0);
         Samples.program(x, 1, "r 0", "? 4 -1 1", "? 3 -1 2", "? 0 -1 3", "u 1", "u 2", "e");
-        Expect.same("h 2 3 0", told(x, 1));
+        Expect.same("h 2 3 0", Samples.check(x, 1));
     }
 
     private static void namesMakePlaces() {
@@ -183,9 +173,9 @@ public final class CheckTest {
         Samples.branches(x, "0 0 1", "1 0 2", "2 1 3");
         x.setStart(0);
         Samples.program(x, 1, "r 0", "? 0 -1 0", "? 1 -1 1", "? 2 -1 0", "e");
-        Expect.same("- 4 1", told(x, 1));
+        Expect.same("- 4 1", Samples.check(x, 1));
         Samples.program(x, 0, "s 1 0 -1", "j 0");
-        Expect.same("l 0 5 0", told(x, 0));
+        Expect.same("l 0 5 0", Samples.check(x, 0));
     }
 
     private static void idleCases() {
@@ -205,41 +195,41 @@ public final class CheckTest {
         x.add(1, 'r', 0, 0, 0);
         x.addCase(1, 19, 0, -1, 0);
         x.addCase(1, 19, 5, -1, 0);
-        Expect.same("- 2 0", told(x, 0));
-        Expect.same("p 19 2 2", told(x, 1));
+        Expect.same("- 2 0", Samples.check(x, 0));
+        Expect.same("p 19 2 2", Samples.check(x, 1));
         Samples.nodes(x, "01");
         Samples.branches(x, "1 0 1", "1 3 1");
         x.setStart(1);
-        Expect.same("o 19 2 2", told(x, 1));
+        Expect.same("o 19 2 2", Samples.check(x, 1));
         x.addCase(1, 19, 3, -1, 19);
-        Expect.same("- 2 1", told(x, 1));
+        Expect.same("- 2 1", Samples.check(x, 1));
         QuantityQuarry label0 = Samples.parties(2);
         Samples.nodes(label0, "01", "e");
         Samples.branches(label0, "0 0 1");
         label0.setStart(0);
         Samples.program(label0, 1, "r 0", "? 5 -1 0");
-        Expect.same("o 0 1 1", told(label0, 1));
+        Expect.same("o 0 1 1", Samples.check(label0, 1));
     }
 
     private static void changesAreSeen() {
         QuantityQuarry x = oneMessage();
-        Expect.same("i 0 1 0", told(x, 1));
+        Expect.same("i 0 1 0", Samples.check(x, 1));
         x.add(1, 'r', 0, 0, 0);
-        Expect.same("o 0 1 0", told(x, 1));
+        Expect.same("o 0 1 0", Samples.check(x, 1));
         x.addCase(1, 0, 1, 0, 1);
-        Expect.same("o 0 1 1", told(x, 1));
+        Expect.same("o 0 1 1", Samples.check(x, 1));
         x.addCase(1, 0, 2, -1, 2);
-        Expect.same("i 1 2 0", told(x, 1));
+        Expect.same("i 1 2 0", Samples.check(x, 1));
         x.add(1, 'u', 0, 0, 0);
-        Expect.same("i 2 3 0", told(x, 1));
+        Expect.same("i 2 3 0", Samples.check(x, 1));
         x.add(1, 'e', 0, 0, 0);
-        Expect.same("- 3 0", told(x, 1));
+        Expect.same("- 3 0", Samples.check(x, 1));
         x.addBranch(0, 3, false, 1);
-        Expect.same("o 0 1 2", told(x, 1));
+        Expect.same("o 0 1 2", Samples.check(x, 1));
         x.setStart(1);
-        Expect.same("p 0 1 2", told(x, 1));
+        Expect.same("p 0 1 2", Samples.check(x, 1));
         x.setStart(0);
         x.addCase(1, 0, 3, -1, 2);
-        Expect.same("- 3 0", told(x, 1));
+        Expect.same("- 3 0", Samples.check(x, 1));
     }
 }

@@ -36,8 +36,9 @@ public final class GridTest {
     };
 
     private static String pingPong(String more) {
-        return "addParty, addParty, addMessage 0 1, addMessage 1 0, addEnd, addBranch 0 0 true 1, addBranch 0 2 false 2,"
-                + " addBranch 1 1 false 0, setStart 0, add 0 'd 0 5 0, add 0 'n 0 0 0, add 0 's 1 0 0, add 0 'r 1 0 0,"
+        return "addParty, addParty, addMessage 0 1, addMessage 1 0, addEnd, addBranch 0 0 true 1,"
+                + " addBranch 0 2 false 2, addBranch 1 1 false 0, setStart 0,"
+                + " add 0 'd 0 5 0, add 0 'n 0 0 0, add 0 's 1 0 0, add 0 'r 1 0 0,"
                 + " addCase 0 3 1 -1 0, add 0 'e 0 0 0, add 0 's 1 2 -1, add 0 'e 0 0 0, add 1 'r 0 0 0,"
                 + " addCase 1 0 0 2 1, addCase 1 0 2 -1 4, add 1 'u 2 0 0, add 1 's 0 1 -1, add 1 'j 0 0 0,"
                 + " add 1 'e 0 0 0" + more;
@@ -103,7 +104,9 @@ public final class GridTest {
             for (int i = 0; i < arguments.length; i++) {
                 arguments[i] = argument(parts[i + 1]);
             }
-            call(parts[0], arguments);
+            if (call(parts[0], arguments)) {
+                fail(call + " was refused");
+            }
         }
     }
 

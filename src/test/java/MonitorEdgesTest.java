@@ -17,16 +17,13 @@ public final class MonitorEdgesTest {
         Expect.finish();
     }
 
-    /** Promise 20: wrong parties, with each number of them, ahead of a protocol that is not whole, and of a run. */
+    /** Promise 20: wrong parties, with each number of them, ahead of all else; right ones in no run. */
     private static void wrongParties() {
-        for (int parties = 0; parties <= 4; parties++) {
+        World.refuseWrongParties((x, party) -> x.setMonitor(party, true), (x, party) -> x.setMonitor(party, false));
+        for (int parties = 1; parties <= 4; parties++) {
             int count = parties;
             World bare = new World(() -> Samples.parties(count));
             World open = new World(() -> Samples.ended(count));
-            for (int wrong : Ints.outside(0, count - 1)) {
-                World.allRefuse(Expect.INDEX, x -> x.setMonitor(wrong, true), bare, open, open.begun());
-                World.allRefuse(Expect.INDEX, x -> x.setMonitor(wrong, false), bare, open, open.begun());
-            }
             for (int right = 0; right < count; right++) {
                 int party = right;
                 World.allRefuse(Expect.STATE, x -> x.setMonitor(party, true), bare, open.begun());
@@ -37,29 +34,15 @@ public final class MonitorEdgesTest {
         }
     }
 
-    /** Party 2 is refused, parties 0, 1 and 3 are not; without a start the protocol is not whole. */
-    private static QuantityQuarry refused() {
-        QuantityQuarry x = Samples.parties(4);
-        Samples.nodes(x, "01", "02", "e");
-        Samples.branches(x, "0 0 2", "0 1 1", "1 0 2");
-        return x;
-    }
-
-    private static QuantityQuarry refusedAndWhole() {
-        QuantityQuarry x = refused();
-        x.setStart(0);
-        return x;
-    }
-
     /** Promise 20: that is told of a refused party too. */
     private static void notWholeOrInARun() {
-        World noStart = new World(MonitorEdgesTest::refused);
+        World noStart = new World(() -> Samples.refusedButForAStart(4));
         World noBranch = new World(() -> {
-            QuantityQuarry x = refusedAndWhole();
+            QuantityQuarry x = Samples.refused(4);
             x.addMessage(0, 1);
             return x;
         });
-        World run = new World(MonitorEdgesTest::refusedAndWhole).begun();
+        World run = new World(() -> Samples.refused(4)).begun();
         for (int party = 0; party < 4; party++) {
             int asked = party;
             World.allRefuse(Expect.STATE, x -> x.setMonitor(asked, true), noStart, noBranch, run);
@@ -68,7 +51,7 @@ public final class MonitorEdgesTest {
     }
 
     private static void refusedParties() {
-        World world = new World(MonitorEdgesTest::refusedAndWhole);
+        World world = new World(() -> Samples.refused(4));
         world.refuses(Expect.UNSUPPORTED, x -> x.setMonitor(2, true));
         world.refuses(Expect.UNSUPPORTED, x -> x.setMonitor(2, false));
         for (int party : new int[] {0, 1, 3}) {
@@ -172,16 +155,7 @@ public final class MonitorEdgesTest {
 
     /** A monitor of party 2, which has 40 states, goes through all of them, and back from state 39 to state 1. */
     private static void statesGoOnFrom0To39() {
-        QuantityQuarry x = Samples.parties(3);
-        x.addMessage(0, 1);
-        for (int i = 0; i < 16; i++) {
-            x.addMessage(1, 2);
-        }
-        Samples.branches(x, "0 0 1", "0 1 4");
-        for (int i = 0; i < 16; i++) {
-            x.addBranch(1 + i, 5, true, i < 3 ? 1 + (i + 1) % 3 : 4 + (i - 2) % 13);
-        }
-        x.setStart(0);
+        QuantityQuarry x = Samples.cycles(true, 3, 13, true);
         Samples.program(x, 1, "n 0", "s 2 5 0", "j 0");
         Samples.program(x, 2, "r 1", "? 5 3 1", "u 3", "j 0");
         Expect.same(17, x.states(1));
@@ -405,12 +379,22 @@ public final class MonitorEdgesTest {
         Expect.same("bxc", Samples.steps(wants, "020"));
         Expect.thrown(Expect.ELEMENT, () -> wants.blamedAt(0));
         Expect.same(0, wants.stateOf(0));
-        QuantityQuarry failing = language();
-        Samples.program(failing, 0, "r 1", "? 1 -1 0");
-        Samples.program(failing, 1, "s 0 0 -1");
-        failing.setMonitor(0, true);
-        failing.begin(1);
-        Expect.same("dx", Samples.steps(failing, "10"));
-        Expect.thrown(Expect.ELEMENT, () -> failing.blamedAt(0));
+        failsAheadOfTheMonitor("s 0 0 -1", "r 1", "? 1 -1 0");
+        failsAheadOfTheMonitor("s 0 0 -1", "r 1", "? 0 3 0");
+        failsAheadOfTheMonitor("s 0 0 3", "r 1", "? 0 -1 0");
+        failsAheadOfTheMonitor("s 0 0 3", "r 1", "? 0 0 0");
+    }
+
+    /** Party 0, whose state sends, would receive, and fails for another reason: it is not blamed. */
+    private static void failsAheadOfTheMonitor(String send, String... receive) {
+        QuantityQuarry x = language();
+        Samples.program(x, 0, "n 0");
+        Samples.program(x, 0, receive);
+        Samples.program(x, 1, "n 3", send);
+        x.setMonitor(0, true);
+        x.begin(1);
+        Expect.same("dddx", Samples.steps(x, "0110"));
+        Expect.same('x', x.condition(0));
+        Expect.thrown(Expect.ELEMENT, () -> x.blamedAt(0));
     }
 }

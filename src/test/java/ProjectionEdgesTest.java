@@ -1,11 +1,7 @@
 /** The boundary cases of promises 7 to 11: wholeness, each reason of refusal, the limits of states and labels. */
 public final class ProjectionEdgesTest {
-    interface OfParty {
-        Object on(QuantityQuarry x, int party);
-    }
-
     /** The calls that are about a state of a party, or about the party alone, also with a state that is wrong. */
-    private static final OfParty[] OF_STATES = {
+    private static final World.OfParty[] OF_STATES = {
         (x, party) -> x.states(party),
         (x, party) -> x.kindOf(party, 0), (x, party) -> x.kindOf(party, -1), (x, party) -> x.kindOf(party, 40),
         (x, party) -> x.partnerOf(party, 0), (x, party) -> x.partnerOf(party, Integer.MAX_VALUE),
@@ -27,41 +23,27 @@ public final class ProjectionEdgesTest {
         Expect.finish();
     }
 
-    /** Wrong parties, with each number of them, ahead of a protocol that is not whole. */
+    /** Wrong parties, with each number of them, ahead of all else; right ones are not refused where no message is. */
     private static void wrongParties() {
-        for (int parties = 0; parties <= 4; parties++) {
+        World.refuseWrongParties(OF_STATES);
+        World.refuseWrongParties((x, party) -> x.refusal(party));
+        for (int parties = 1; parties <= 4; parties++) {
             int count = parties;
-            World bare = new World(() -> Samples.parties(count));
             World whole = new World(() -> Samples.ended(count));
-            for (int wrong : Ints.outside(0, count - 1)) {
-                World.allRefuse(Expect.INDEX, x -> x.refusal(wrong), bare, whole, whole.begun());
-                for (OfParty call : OF_STATES) {
-                    World.allRefuse(Expect.INDEX, x -> call.on(x, wrong), bare, whole, whole.begun());
-                }
-            }
             for (int right = 0; right < count; right++) {
                 int party = right;
-                whole.answers('-', x -> x.refusal(party));
-                whole.answers(1, x -> x.states(party));
-                whole.begun().answers('e', x -> x.kindOf(party, 0));
+                whole.tells('-', x -> x.refusal(party));
+                whole.tells(1, x -> x.states(party));
+                whole.begun().tells('e', x -> x.kindOf(party, 0));
             }
         }
-    }
-
-    /** Party 2 is refused: it does not learn whether it is to receive. */
-    private static QuantityQuarry refused() {
-        QuantityQuarry x = Samples.parties(3);
-        Samples.nodes(x, "01", "02", "e");
-        Samples.branches(x, "0 0 2", "0 1 1", "1 0 2");
-        x.setStart(0);
-        return x;
     }
 
     private static void refusesAll(World world) {
         for (int party = 0; party < 3; party++) {
             int asked = party;
             world.refuses(Expect.STATE, x -> x.refusal(asked));
-            for (OfParty call : OF_STATES) {
+            for (World.OfParty call : OF_STATES) {
                 world.refuses(Expect.STATE, x -> call.on(x, asked));
             }
         }
@@ -70,19 +52,14 @@ public final class ProjectionEdgesTest {
     /** No start, or a message without a branch wherever it stands, also of a party that would be refused. */
     private static void notWhole() {
         refusesAll(new World(() -> Samples.parties(3)));
+        refusesAll(new World(() -> Samples.refusedButForAStart(3)));
         refusesAll(new World(() -> {
-            QuantityQuarry x = Samples.parties(3);
-            Samples.nodes(x, "01", "02", "e");
-            Samples.branches(x, "0 0 2", "0 1 1", "1 0 2");
-            return x;
-        }));
-        refusesAll(new World(() -> {
-            QuantityQuarry x = refused();
+            QuantityQuarry x = Samples.refused(3);
             x.addMessage(1, 0);
             return x;
         }));
         refusesAll(new World(() -> {
-            QuantityQuarry x = refused();
+            QuantityQuarry x = Samples.refused(3);
             x.addMessage(1, 2);
             x.addBranch(1, 2, true, 3);
             return x;
@@ -126,28 +103,18 @@ public final class ProjectionEdgesTest {
         Expect.same(0, x.follower(0, 0, 5));
     }
 
-    /** Party 2 is at one of three nodes, of which the first has the label 0 with a cell; node 4 is an end. */
-    private static QuantityQuarry oneOfThree(String first, String second, String third, String... branches) {
-        QuantityQuarry x = Samples.parties(3);
-        Samples.nodes(x, "01", first, second, third, "e");
-        Samples.branches(x, "0 0 1", "0 1 2", "0 2 3", "1 0+ 4");
-        Samples.branches(x, branches);
-        x.setStart(0);
-        return x;
-    }
-
     private static void refusedForEachReason() {
-        refusedFor('m', () -> oneOfThree("12", "21", "12", "2 0+ 4", "3 0+ 4"));
-        refusedFor('e', () -> oneOfThree("12", "12", "e", "2 0+ 4"));
-        refusedFor('e', () -> oneOfThree("21", "e", "e"));
-        refusedFor('t', () -> oneOfThree("12", "02", "12", "2 0+ 4", "3 0+ 4"));
-        refusedFor('t', () -> oneOfThree("21", "21", "20", "2 0+ 4", "3 0+ 4"));
-        refusedFor('l', () -> oneOfThree("21", "21", "21", "2 0+ 4", "3 0+ 4", "3 5 4"));
-        refusedFor('k', () -> oneOfThree("12", "12", "12", "2 0+ 4", "3 0 4"));
-        refusedFor('k', () -> oneOfThree("21", "21", "21", "2 0 4", "3 0+ 4"));
-        refusedFor('b', () -> cycles(true, 5, 8, false));
-        new World(() -> oneOfThree("12", "12", "12", "2 1 4", "3 0+ 4", "3 5 4")).answers('-', x -> x.refusal(2));
-        new World(() -> oneOfThree("21", "21", "21", "2 0+ 4", "3 0+ 4")).answers('-', x -> x.refusal(2));
+        refusedFor('m', () -> Samples.oneOfThree("12", "21", "12", "2 0+ 4", "3 0+ 4"));
+        refusedFor('e', () -> Samples.oneOfThree("12", "12", "e", "2 0+ 4"));
+        refusedFor('e', () -> Samples.oneOfThree("21", "e", "e"));
+        refusedFor('t', () -> Samples.oneOfThree("12", "02", "12", "2 0+ 4", "3 0+ 4"));
+        refusedFor('t', () -> Samples.oneOfThree("21", "21", "20", "2 0+ 4", "3 0+ 4"));
+        refusedFor('l', () -> Samples.oneOfThree("21", "21", "21", "2 0+ 4", "3 0+ 4", "3 5 4"));
+        refusedFor('k', () -> Samples.oneOfThree("12", "12", "12", "2 0+ 4", "3 0 4"));
+        refusedFor('k', () -> Samples.oneOfThree("21", "21", "21", "2 0 4", "3 0+ 4"));
+        refusedFor('b', () -> Samples.cycles(true, 5, 8, false));
+        firstOf('-', Samples.oneOfThree("12", "12", "12", "2 1 4", "3 0+ 4", "3 5 4"));
+        firstOf('-', Samples.oneOfThree("21", "21", "21", "2 0+ 4", "3 0+ 4"));
     }
 
     /** A party that is refused has no states, which is told ahead of a state or label that there is not. */
@@ -156,7 +123,7 @@ public final class ProjectionEdgesTest {
         for (World asked : new World[] {world, world.begun()}) {
             asked.answers(reason, x -> x.refusal(2));
             asked.answers(false, x -> x.isAdmitted(2));
-            for (OfParty call : OF_STATES) {
+            for (World.OfParty call : OF_STATES) {
                 asked.refuses(Expect.UNSUPPORTED, x -> call.on(x, 2));
             }
         }
@@ -164,16 +131,16 @@ public final class ProjectionEdgesTest {
 
     /** Of each two reasons of one state the one that the document lists first. */
     private static void firstOfTwoReasons() {
-        firstOf('m', oneOfThree("12", "21", "e", "2 0+ 4"));
-        firstOf('m', oneOfThree("12", "20", "12", "2 0+ 4", "3 0+ 4"));
-        firstOf('m', oneOfThree("21", "12", "21", "2 0+ 4", "3 1 4"));
-        firstOf('m', oneOfThree("12", "21", "12", "2 0 4", "3 0 4"));
-        firstOf('e', oneOfThree("12", "02", "e", "2 0+ 4"));
-        firstOf('e', oneOfThree("21", "21", "e", "2 1 4"));
-        firstOf('e', oneOfThree("12", "12", "e", "2 0 4"));
-        firstOf('t', oneOfThree("21", "20", "21", "2 1 4", "3 0+ 4"));
-        firstOf('t', oneOfThree("12", "02", "12", "2 0 4", "3 0+ 4"));
-        firstOf('l', oneOfThree("21", "21", "21", "2 0 4", "2 1 4", "3 0+ 4"));
+        firstOf('m', Samples.oneOfThree("12", "21", "e", "2 0+ 4"));
+        firstOf('m', Samples.oneOfThree("12", "20", "12", "2 0+ 4", "3 0+ 4"));
+        firstOf('m', Samples.oneOfThree("21", "12", "21", "2 0+ 4", "3 1 4"));
+        firstOf('m', Samples.oneOfThree("12", "21", "12", "2 0 4", "3 0 4"));
+        firstOf('e', Samples.oneOfThree("12", "02", "e", "2 0+ 4"));
+        firstOf('e', Samples.oneOfThree("21", "21", "e", "2 1 4"));
+        firstOf('e', Samples.oneOfThree("12", "12", "e", "2 0 4"));
+        firstOf('t', Samples.oneOfThree("21", "20", "21", "2 1 4", "3 0+ 4"));
+        firstOf('t', Samples.oneOfThree("12", "02", "12", "2 0 4", "3 0+ 4"));
+        firstOf('l', Samples.oneOfThree("21", "21", "21", "2 0 4", "2 1 4", "3 0+ 4"));
     }
 
     private static void firstOf(char reason, QuantityQuarry x) {
@@ -196,32 +163,10 @@ public final class ProjectionEdgesTest {
         }
     }
 
-    /**
-     * Party 2 sends or receives, and does not learn in which of two cycles it is, so that it has 1 state
-     * more than the product of their lengths.
-     */
-    private static QuantityQuarry cycles(boolean receives, int first, int second, boolean hasCell) {
-        QuantityQuarry x = Samples.parties(3);
-        Samples.nodes(x, "01");
-        for (int i = 0; i < first + second; i++) {
-            x.addMessage(receives ? 1 : 2, receives ? 2 : 1);
-        }
-        x.addBranch(0, 0, false, 1);
-        x.addBranch(0, 1, false, 1 + first);
-        for (int i = 0; i < first; i++) {
-            x.addBranch(1 + i, 5, hasCell, 1 + (i + 1) % first);
-        }
-        for (int i = 0; i < second; i++) {
-            x.addBranch(1 + first + i, 5, hasCell, 1 + first + (i + 1) % second);
-        }
-        x.setStart(0);
-        return x;
-    }
-
     /** 40 states are allowed, 41 are not, both for a party that sends and for one that receives. */
     private static void fortyStates() {
         for (boolean receives : new boolean[] {true, false}) {
-            World forty = new World(() -> cycles(receives, 3, 13, true));
+            World forty = new World(() -> Samples.cycles(receives, 3, 13, true));
             forty.answers('-', x -> x.refusal(2));
             forty.answers(40, x -> x.states(2));
             forty.answers(receives ? 'r' : 's', x -> x.kindOf(2, 39));
@@ -233,9 +178,9 @@ public final class ProjectionEdgesTest {
                 forty.refuses(Expect.ELEMENT, x -> x.partnerOf(2, wrong));
                 forty.refuses(Expect.ELEMENT, x -> x.follower(2, wrong, 5));
             }
-            new World(() -> cycles(receives, 5, 8, true)).answers('b', x -> x.refusal(2));
-            new World(() -> cycles(receives, 6, 13, true)).answers('b', x -> x.refusal(2));
-            new World(() -> cycles(receives, 5, 7, true)).answers(36, x -> x.states(2));
+            new World(() -> Samples.cycles(receives, 5, 8, true)).answers('b', x -> x.refusal(2));
+            new World(() -> Samples.cycles(receives, 6, 13, true)).answers('b', x -> x.refusal(2));
+            new World(() -> Samples.cycles(receives, 5, 7, true)).answers(36, x -> x.states(2));
         }
     }
 

@@ -187,14 +187,8 @@ public final class ProjectionTest {
         Expect.same('-', reasonOf("21", "21", "21", "2 0+ 4", "3 0+ 4"));
     }
 
-    /** Party 2 may be at any of three nodes, of which the first has the label 0 with a cell. */
     private static char reasonOf(String first, String second, String third, String... branches) {
-        QuantityQuarry x = Samples.parties(3);
-        Samples.nodes(x, "01", first, second, third, "e");
-        Samples.branches(x, "0 0 1", "0 1 2", "0 2 3", "1 0+ 4");
-        Samples.branches(x, branches);
-        x.setStart(0);
-        return x.refusal(2);
+        return Samples.oneOfThree(first, second, third, branches).refusal(2);
     }
 
     private static void firstStateWithAReason() {
@@ -214,16 +208,16 @@ public final class ProjectionTest {
     }
 
     private static void fortyStates() {
-        QuantityQuarry forty = cycles(3, 13);
+        QuantityQuarry forty = Samples.cycles(true, 3, 13, false);
         Expect.same('-', forty.refusal(2));
         Expect.same(40, forty.states(2));
-        Expect.same(39, forty.follower(2, 38, 0));
-        Expect.same(1, forty.follower(2, 39, 0));
+        Expect.same(39, forty.follower(2, 38, 5));
+        Expect.same(1, forty.follower(2, 39, 5));
         Expect.same('r', forty.kindOf(2, 39));
         Expect.same(1, forty.partnerOf(2, 39));
         Expect.thrown(Expect.ELEMENT, () -> forty.kindOf(2, 40));
         Expect.same(17, forty.states(1));
-        QuantityQuarry more = cycles(5, 8);
+        QuantityQuarry more = Samples.cycles(true, 5, 8, false);
         Expect.same('b', more.refusal(2));
         Expect.thrown(Expect.UNSUPPORTED, () -> more.states(2));
         Expect.same('-', more.refusal(1));
@@ -238,25 +232,6 @@ public final class ProjectionTest {
         Expect.same('b', more.refusal(2));
         more.addBranch(6, 3, false, 0);
         Expect.same('k', more.refusal(2));
-    }
-
-    /** Party 2 does not learn in which of two cycles it is, so it has 1 state more than their lengths' product. */
-    private static QuantityQuarry cycles(int first, int second) {
-        QuantityQuarry x = Samples.parties(3);
-        Samples.nodes(x, "01");
-        for (int i = 0; i < first + second; i++) {
-            x.addMessage(1, 2);
-        }
-        x.addBranch(0, 0, false, 1);
-        x.addBranch(0, 1, false, 1 + first);
-        for (int i = 0; i < first; i++) {
-            x.addBranch(1 + i, 0, false, 1 + (i + 1) % first);
-        }
-        for (int i = 0; i < second; i++) {
-            x.addBranch(1 + first + i, 0, false, 1 + first + (i + 1) % second);
-        }
-        x.setStart(0);
-        return x;
     }
 
     /** Node 19 begins a way down to node 1, hidden from parties 2 and 3 but for its ends. */

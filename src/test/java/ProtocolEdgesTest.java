@@ -200,7 +200,7 @@ public final class ProtocolEdgesTest {
         bare.refuses(Expect.INDEX, x -> x.addBranch(0, 0, true, 0));
     }
 
-    /** Promise 5: a branch of an end, or a label that is out of range, ahead of branches that there are and of a run. */
+    /** Promise 5: a branch of an end, or a label out of range, ahead of branches that there are and of a run. */
     private static void addBranchArguments() {
         World open = new World(ProtocolEdgesTest::fourNodes);
         World run = open.begun();

@@ -1,12 +1,9 @@
 /** The boundary cases of promises 20 to 34, but for monitors, which stand in MonitorEdgesTest. */
 public final class RunEdgesTest {
-    interface OfParty {
-        Object on(QuantityQuarry x, int party);
-    }
-
     /** The calls that are about a party of a run, also with a second number that is wrong where no exception is due. */
-    private static final OfParty[] OF_RUN = {QuantityQuarry::step, QuantityQuarry::cancel, QuantityQuarry::condition,
-        QuantityQuarry::at, QuantityQuarry::stateOf, QuantityQuarry::blamedAt, (x, party) -> x.cellIn(party, 0),
+    private static final World.OfParty[] OF_RUN = {QuantityQuarry::step, QuantityQuarry::cancel,
+        QuantityQuarry::condition, QuantityQuarry::at, QuantityQuarry::stateOf, QuantityQuarry::blamedAt,
+        (x, party) -> x.cellIn(party, 0),
         (x, party) -> x.number(party, 1), (x, party) -> x.queued(party, 0), (x, party) -> x.queued(0, party),
         (x, party) -> x.messageAt(party, 0, 0), (x, party) -> x.messageAt(0, party, -1)};
 
@@ -23,6 +20,7 @@ public final class RunEdgesTest {
         messagesOfAQueue();
         firstInFirstOut();
         fullAndEmptyQueues();
+        capacityOfEachRun();
         queuesOfPartiesThatDoNotRun();
         stepsOffTheProgram();
         countingDown();
@@ -125,20 +123,9 @@ public final class RunEdgesTest {
 
     /** Wrong parties, with each number of them, ahead of a missing run, and of all else. */
     private static void wrongParties() {
-        for (int parties = 0; parties <= 4; parties++) {
-            int count = parties;
-            World bare = new World(() -> Samples.parties(count));
-            World open = new World(() -> Samples.ended(count));
-            for (int wrong : Ints.outside(0, count - 1)) {
-                for (OfParty call : OF_RUN) {
-                    World.allRefuse(Expect.INDEX, x -> call.on(x, wrong), bare, open, open.begun());
-                }
-                World.allRefuse(Expect.INDEX, x -> x.cellIn(wrong, -1), bare, open, open.begun());
-                World.allRefuse(Expect.INDEX, x -> x.number(wrong, 2), bare, open, open.begun());
-                World.allRefuse(Expect.INDEX, x -> x.queued(wrong, wrong), bare, open, open.begun());
-                World.allRefuse(Expect.INDEX, x -> x.messageAt(wrong, wrong, 0), bare, open, open.begun());
-            }
-        }
+        World.refuseWrongParties(OF_RUN);
+        World.refuseWrongParties((x, party) -> x.cellIn(party, -1), (x, party) -> x.number(party, 2),
+                (x, party) -> x.queued(party, party), (x, party) -> x.messageAt(party, party, 0));
     }
 
     /** Promises 27 and 28: names 0 to 3 and numbers 0 and 1, ahead of a missing run. */
@@ -189,7 +176,7 @@ public final class RunEdgesTest {
         for (World world : new World[] {new World(() -> Samples.ended(4)), new World(RunEdgesTest::closed)}) {
             for (int party = 0; party < 4; party++) {
                 int asked = party;
-                for (OfParty call : OF_RUN) {
+                for (World.OfParty call : OF_RUN) {
                     world.refuses(Expect.STATE, x -> call.on(x, asked));
                 }
                 world.refuses(Expect.STATE, x -> x.messageAt(asked, asked, 9));
@@ -352,6 +339,25 @@ public final class RunEdgesTest {
             }
             Expect.same("b", Samples.steps(x, "2"));
             Expect.same(0, x.at(2));
+        }
+    }
+
+    /** The capacity is the one of this run, whatever the runs before had, and holds for each queue. */
+    private static void capacityOfEachRun() {
+        for (int distance = 1; distance < 4; distance++) {
+            QuantityQuarry x = Samples.ended(4);
+            for (int party = 0; party < 4; party++) {
+                Samples.program(x, party, "s " + (party + distance) % 4 + " 1 -1", "j 0");
+            }
+            for (int capacity : new int[] {3, 1, 2, 1, 3}) {
+                x.begin(capacity);
+                for (int party = 0; party < 4; party++) {
+                    String due = "dd".repeat(capacity) + "b";
+                    Expect.same(due, Samples.steps(x, ("" + party).repeat(due.length())));
+                    Expect.same(capacity, x.queued(party, (party + distance) % 4));
+                }
+                Expect.same(8 * capacity, x.close());
+            }
         }
     }
 

@@ -44,25 +44,14 @@ public final class SearchEdgesTest {
         refuse(Expect.STATE, closed(apart(10, 10, 10)));
         refuse(Expect.STATE, closed(apart(7, 11, 13)));
         refuse(Expect.STATE, closed(new World(() -> {
-            QuantityQuarry x = apart(7, 11, 13).make();
+            QuantityQuarry x = Samples.apart(7, 11, 13);
             Expect.thrown(Expect.UNSUPPORTED, x::search);
             return x;
         })));
     }
 
-    /** Parties that do not speak: the numbers of their states are multiplied. */
     private static World apart(int... states) {
-        return new World(() -> {
-            QuantityQuarry x = Samples.ended(states.length);
-            for (int party = 0; party < states.length; party++) {
-                for (int i = 0; i < states[party] - 2; i++) {
-                    x.add(party, 'j', i + 1, 0, 0);
-                }
-                x.add(party, 'e', 0, 0, 0);
-            }
-            x.begin(1);
-            return x;
-        });
+        return new World(() -> Samples.apart(states));
     }
 
     /** 'this one included': it is the only one where no party is, none runs, or none goes on. */
@@ -120,30 +109,13 @@ public final class SearchEdgesTest {
         return withTail(jumps, "r 0");
     }
 
-    /** Three parties send to party 3 and wait; party 3 takes that, and goes on alone: each jump is one state more. */
     private static World withTail(int jumps, String last) {
-        return new World(() -> {
-            QuantityQuarry x = Samples.ended(4);
-            int[] before = {2, 12, 12};
-            for (int party = 0; party < 3; party++) {
-                for (int i = 0; i < before[party]; i++) {
-                    x.add(party, 'j', i + 1, 0, 0);
-                }
-                Samples.program(x, party, "s 3 0 -1", "r 3");
-            }
-            Samples.program(x, 3, "r 0", "? 0 -1 1", "r 1", "? 0 -1 2", "r 2", "? 0 -1 3");
-            for (int i = 0; i < jumps; i++) {
-                x.add(3, 'j', i + 4, 0, 0);
-            }
-            Samples.program(x, 3, last);
-            x.begin(1);
-            return x;
-        });
+        return new World(() -> Samples.withTail(jumps, last));
     }
 
     /** From the first state there are 1001, from others fewer: each call looks from where the run is. */
     private static void moreThanThousandFromSomeStatesAlone() {
-        QuantityQuarry x = apart(7, 11, 13).make();
+        QuantityQuarry x = Samples.apart(7, 11, 13);
         Expect.thrown(Expect.UNSUPPORTED, x::reached);
         x.step(2);
         Expect.same(7 * 11 * 12, x.reached());

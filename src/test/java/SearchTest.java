@@ -23,24 +23,11 @@ public final class SearchTest {
         Expect.thrown(Expect.STATE, x::reached);
     }
 
-    /** Parties that do not speak: the numbers of their states are multiplied. */
-    private static QuantityQuarry apart(int... states) {
-        QuantityQuarry x = Samples.ended(states.length);
-        for (int party = 0; party < states.length; party++) {
-            for (int i = 0; i < states[party] - 2; i++) {
-                x.add(party, 'j', i + 1, 0, 0);
-            }
-            x.add(party, 'e', 0, 0, 0);
-        }
-        x.begin(1);
-        return x;
-    }
-
     private static void aThousandStates() {
-        QuantityQuarry thousand = apart(10, 10, 10);
+        QuantityQuarry thousand = Samples.apart(10, 10, 10);
         Expect.same(1000, thousand.reached());
         Expect.same(0, thousand.search());
-        QuantityQuarry more = apart(7, 11, 13);
+        QuantityQuarry more = Samples.apart(7, 11, 13);
         Expect.thrown(Expect.UNSUPPORTED, more::reached);
         Expect.thrown(Expect.UNSUPPORTED, more::search);
         Expect.thrown(Expect.UNSUPPORTED, more::reached);
@@ -48,12 +35,12 @@ public final class SearchTest {
         Expect.same(910, more.reached());
         Expect.same(0, more.search());
         Expect.same(1, more.at(1));
-        QuantityQuarry many = apart(20, 20, 20, 20);
+        QuantityQuarry many = Samples.apart(20, 20, 20, 20);
         Expect.thrown(Expect.UNSUPPORTED, many::search);
         Expect.same(0, many.at(0));
         Expect.same(0L, many.steps());
-        Expect.same(4, apart(2, 2).reached());
-        Expect.same(2, apart(2).reached());
+        Expect.same(4, Samples.apart(2, 2).reached());
+        Expect.same(2, Samples.apart(2).reached());
     }
 
     private static void lastOfAThousandIsStuck() {
@@ -69,32 +56,13 @@ public final class SearchTest {
         Expect.same(1, x.search());
     }
 
-    /** Three parties send to party 3, which goes on alone at the end: each jump more makes one state more. */
-    private static QuantityQuarry withTail(int jumps) {
-        QuantityQuarry x = Samples.ended(4);
-        int[] before = {2, 12, 12};
-        for (int party = 0; party < 3; party++) {
-            for (int i = 0; i < before[party]; i++) {
-                x.add(party, 'j', i + 1, 0, 0);
-            }
-            Samples.program(x, party, "s 3 0 -1", "r 3");
-        }
-        Samples.program(x, 3, "r 0", "? 0 -1 1", "r 1", "? 0 -1 2", "r 2", "? 0 -1 3");
-        for (int i = 0; i < jumps; i++) {
-            x.add(3, 'j', i + 4, 0, 0);
-        }
-        Samples.program(x, 3, "r 0");
-        x.begin(1);
-        return x;
-    }
-
     private static void oneStateMore() {
-        QuantityQuarry less = withTail(4);
+        QuantityQuarry less = Samples.withTail(4, "r 0");
         Expect.same(999, less.reached());
-        QuantityQuarry thousand = withTail(5);
+        QuantityQuarry thousand = Samples.withTail(5, "r 0");
         Expect.same(1, thousand.search());
         Expect.same(1000, thousand.reached());
-        QuantityQuarry more = withTail(6);
+        QuantityQuarry more = Samples.withTail(6, "r 0");
         Expect.thrown(Expect.UNSUPPORTED, more::search);
         Expect.thrown(Expect.UNSUPPORTED, more::reached);
         more.step(0);

@@ -30,6 +30,14 @@ public final class TotalsEdgesTest {
             Expect.same(2, x.close());
             Expect.same(2L * run + 2, x.steps());
         }
+        QuantityQuarry longRun = Samples.ended(1);
+        Samples.program(longRun, 0, "j 0");
+        longRun.begin(1);
+        for (int i = 0; i < 500; i++) {
+            longRun.step(0);
+        }
+        Expect.same(500L, longRun.steps());
+        Expect.same(500, longRun.close());
     }
 
     /** Promise 37: steps of each sign but 'b' are counted, calls of cancel(), search() and reached() are not. */

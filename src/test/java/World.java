@@ -8,6 +8,10 @@ final class World {
         Object on(QuantityQuarry x);
     }
 
+    interface OfParty {
+        Object on(QuantityQuarry x, int party);
+    }
+
     private final Make make;
     private String told;
 
@@ -57,6 +61,23 @@ final class World {
     static void allRefuse(Class<? extends RuntimeException> due, Use call, World... worlds) {
         for (World world : worlds) {
             world.refuses(due, call);
+        }
+    }
+
+    /**
+     * With each number of parties, the calls about one that there is not are refused as such, whether the protocol
+     * is whole or not, and whether a run has begun or not.
+     */
+    static void refuseWrongParties(OfParty... calls) {
+        for (int parties = 0; parties <= 4; parties++) {
+            int count = parties;
+            World bare = new World(() -> Samples.parties(count));
+            World open = new World(() -> Samples.ended(count));
+            for (int wrong : Ints.outside(0, count - 1)) {
+                for (OfParty call : calls) {
+                    allRefuse(Expect.INDEX, x -> call.on(x, wrong), bare, open, open.begun());
+                }
+            }
         }
     }
 }
