@@ -204,22 +204,39 @@ public final class ProjectionEdgesTest {
         statesOfAnOlderProtocol();
     }
 
-    /** States that there were before the start was set to an end are no states any more. */
+    private static void hasNoState(QuantityQuarry x, int party, int state) {
+        Expect.thrown(Expect.ELEMENT, () -> x.kindOf(party, state));
+        Expect.thrown(Expect.ELEMENT, () -> x.partnerOf(party, state));
+        for (int label : Ints.inside(0, 5)) {
+            Expect.thrown(Expect.ELEMENT, () -> x.follower(party, state, label));
+        }
+    }
+
+    /** States that there were, or were looked at, ahead of a new start are no states any more. */
     private static void statesOfAnOlderProtocol() {
         QuantityQuarry x = Samples.pingPong();
-        Expect.same(2, x.follower(0, 0, 2));
+        Expect.same(0, x.follower(0, 1, 1));
         x.setStart(2);
         Expect.same(1, x.states(0));
         Expect.same('e', x.kindOf(0, 0));
         Expect.thrown(Expect.ELEMENT, () -> x.partnerOf(0, 0));
-        Expect.thrown(Expect.ELEMENT, () -> x.kindOf(0, 1));
         for (int label : Ints.inside(0, 5)) {
             Expect.thrown(Expect.ELEMENT, () -> x.follower(0, 0, label));
         }
+        hasNoState(x, 0, 1);
+        hasNoState(x, 0, 2);
         x.setStart(1);
         Expect.same(0, x.partnerOf(1, 0));
         Expect.same(1, x.follower(1, 0, 1));
         Expect.thrown(Expect.ELEMENT, () -> x.follower(1, 0, 2));
+        QuantityQuarry many = Samples.cycles(true, 5, 8, true);
+        Expect.same('b', many.refusal(2));
+        many.setStart(1);
+        Expect.same(5, many.states(2));
+        Expect.same(100, many.follower(2, 4, 5));
+        hasNoState(many, 2, 5);
+        hasNoState(many, 2, 39);
+        hasNoState(many, 2, 40);
     }
 
     /** 'no such state, or it is an end', as a first state, as one behind messages, and with others' messages in it. */
